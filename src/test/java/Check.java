@@ -11,15 +11,23 @@ final class Check {
     }
 
     private static int wrong = 0;
+    private static String words = "";
 
     private Check() {
+    }
+
+    /** The test of one sentence of the document: a wrong answer is told together with its words. */
+    static void sentence(String wordsOfTheDocument, Step test) {
+        words = "\"" + wordsOfTheDocument + "\": ";
+        test.run();
+        words = "";
     }
 
     static void due(String call, Object want, Call made) {
         String got = outcome(made);
         if (!got.equals(String.valueOf(want))) {
             wrong++;
-            System.out.println(call + " answered " + got + ", due is " + want);
+            System.out.println(words + call + " answered " + got + ", due is " + want);
         }
     }
 
@@ -42,6 +50,14 @@ final class Check {
         refuses(call, IllegalStateException.class, made);
     }
 
+    /** That a call without an answer throws nothing. */
+    static void allows(String call, Step made) {
+        due(call, "nothing thrown", () -> {
+            made.run();
+            return "nothing thrown";
+        });
+    }
+
     /** The answer as text; an exception by its very class, as a subclass is not what is due. */
     static String outcome(Call made) {
         try {
@@ -59,6 +75,14 @@ final class Check {
         }
         due(when + ": row of " + r, Arrays.toString(want), () -> Arrays.toString(got));
         due(when + ": at behind the row of " + r, -1, () -> x.at(r, want.length));
+    }
+
+    /** The four counts of replica r. */
+    static void counts(String when, WovenRow x, int r, int... want) {
+        for (int what = 0; what < want.length; what++) {
+            int kind = what;
+            due(when + ": count(" + r + ", " + what + ")", want[what], () -> x.count(r, kind));
+        }
     }
 
     static void end() {

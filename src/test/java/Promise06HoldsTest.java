@@ -1,8 +1,10 @@
 /** Promise 6: holds. */
 public final class Promise06HoldsTest {
     public static void main(String[] args) {
-        madeAndGot();
-        refusals();
+        Check.sentence("Whether it HOLDS OPERATION k", Promise06HoldsTest::madeAndGot);
+        Check.sentence("Whether it HOLDS OPERATION k", Promise06HoldsTest::firstAndLastOf160);
+        Check.sentence("there is no such REPLICA", Promise06HoldsTest::noSuchReplica);
+        Check.sentence("there is no OPERATION of that number", Promise06HoldsTest::noSuchNumber);
         Check.end();
     }
 
@@ -28,18 +30,30 @@ public final class Promise06HoldsTest {
         Check.due("a deleted one is held", true, () -> x.holds(0, 1));
     }
 
-    private static void refusals() {
+    private static void firstAndLastOf160() {
+        WovenRow x = Rows.full();
+        for (int k : new int[] {0, 159}) {
+            Check.due("the maker, of " + k, true, () -> x.holds(0, k));
+            Check.due("another, of " + k, false, () -> x.holds(3, k));
+        }
+    }
+
+    private static void noSuchReplica() {
         WovenRow x = Rows.small();
         for (int r : Rows.NO_REPLICAS) {
             Check.argument("holds of replica " + r, () -> x.holds(r, 0));
             Check.argument("holds of replica " + r + ", no operation", () -> x.holds(r, 4));
         }
-        int[] none = {-1, 4, 159, 160, Integer.MIN_VALUE, Integer.MAX_VALUE};
-        for (int k : none) {
+    }
+
+    private static void noSuchNumber() {
+        WovenRow x = Rows.small();
+        for (int k : Rows.NO_SMALL_OPERATIONS) {
             Check.index("holds(0, " + k + ")", () -> x.holds(0, k));
         }
         WovenRow full = Rows.full();
-        Check.due("the last of 160", true, () -> full.holds(0, 159));
-        Check.index("behind the last of 160", () -> full.holds(0, 160));
+        for (int k : Rows.NO_OPERATIONS_EVER) {
+            Check.index("full: holds(0, " + k + ")", () -> full.holds(0, k));
+        }
     }
 }

@@ -1,9 +1,11 @@
 /** Promise 9: value. */
 public final class Promise09ValueTest {
     public static void main(String[] args) {
-        everyNumber();
-        deletedOnesKeepTheirs();
-        refusals();
+        Check.sentence("The number of ELEMENT e", Promise09ValueTest::everyNumber);
+        Check.sentence("The number of ELEMENT e", Promise09ValueTest::deletedOnesKeepTheirs);
+        Check.sentence("The number of ELEMENT e", Promise09ValueTest::firstAndLastOf160);
+        Check.sentence("there is none such", Promise09ValueTest::noSuchNumber);
+        Check.sentence("there is none such", Promise09ValueTest::aDelete);
         Check.end();
     }
 
@@ -25,15 +27,28 @@ public final class Promise09ValueTest {
         Check.due("value of the one behind a delete's number", 20L, () -> x.value(3));
     }
 
-    private static void refusals() {
+    private static void firstAndLastOf160() {
+        WovenRow x = Rows.full();
+        Check.due("the first of 160", 0L, () -> x.value(0));
+        Check.due("the last of 160", 159L, () -> x.value(159));
+    }
+
+    private static void noSuchNumber() {
         WovenRow x = Rows.small();
-        int[] none = {-1, 4, 159, 160, Integer.MIN_VALUE, Integer.MAX_VALUE};
-        for (int e : none) {
+        for (int e : Rows.NO_SMALL_OPERATIONS) {
             Check.index("value(" + e + ")", () -> x.value(e));
         }
-        Check.index("value of a delete", () -> x.value(2));
         WovenRow full = Rows.full();
-        Check.due("the last of 160", 159L, () -> full.value(159));
-        Check.index("behind the last of 160", () -> full.value(160));
+        for (int e : Rows.NO_OPERATIONS_EVER) {
+            Check.index("full: value(" + e + ")", () -> full.value(e));
+        }
+    }
+
+    private static void aDelete() {
+        WovenRow x = Rows.small();
+        Check.index("value of a delete", () -> x.value(2));
+        WovenRow full = Rows.atTheFront(159);
+        full.delete(0, 158);
+        Check.index("the last of 160, a delete", () -> full.value(159));
     }
 }

@@ -1,8 +1,9 @@
 /** Promise 10: stamp. */
 public final class Promise10StampTest {
     public static void main(String[] args) {
-        oneMoreThanItHolds();
-        refusals();
+        Check.sentence("The count of the STAMP of OPERATION k", Promise10StampTest::oneMoreThanItHolds);
+        Check.sentence("The count of the STAMP of OPERATION k", Promise10StampTest::firstAndLastOf160);
+        Check.sentence("there is none such", Promise10StampTest::noSuchNumber);
         Check.end();
     }
 
@@ -25,14 +26,23 @@ public final class Promise10StampTest {
         }
     }
 
-    private static void refusals() {
+    private static void firstAndLastOf160() {
+        WovenRow x = Rows.full();
+        Check.due("the first of 160", 1, () -> x.stamp(0));
+        Check.due("the last of 160", 160, () -> x.stamp(159));
+        WovenRow deletes = Rows.atTheFront(159);
+        deletes.delete(0, 0);
+        Check.due("the last of 160, a delete", 160, () -> deletes.stamp(159));
+    }
+
+    private static void noSuchNumber() {
         WovenRow x = Rows.small();
-        int[] none = {-1, 4, 159, 160, Integer.MIN_VALUE, Integer.MAX_VALUE};
-        for (int k : none) {
+        for (int k : Rows.NO_SMALL_OPERATIONS) {
             Check.index("stamp(" + k + ")", () -> x.stamp(k));
         }
         WovenRow full = Rows.full();
-        Check.due("the last of 160", 160, () -> full.stamp(159));
-        Check.index("behind the last of 160", () -> full.stamp(160));
+        for (int k : Rows.NO_OPERATIONS_EVER) {
+            Check.index("full: stamp(" + k + ")", () -> full.stamp(k));
+        }
     }
 }

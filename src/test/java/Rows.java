@@ -1,8 +1,15 @@
-/** Objects that several tests begin with, and views of an object's whole state. */
+/** Objects that several tests begin with, and numbers that are beside all bounds. */
 final class Rows {
     static final int REPLICAS = 4;
     static final int MOST_OPERATIONS = 160;
+    static final int MOST_CALLS = 512;
     static final int[] NO_REPLICAS = {-1, REPLICAS, Integer.MIN_VALUE, Integer.MAX_VALUE};
+
+    static final int SMALL_OPERATIONS = 4;
+    /** What is no number of an operation of the small object: next to the bounds, and far out. */
+    static final int[] NO_SMALL_OPERATIONS =
+            {-1, SMALL_OPERATIONS, -2, 159, 160, Integer.MIN_VALUE, Integer.MAX_VALUE};
+    static final int[] NO_OPERATIONS_EVER = {-1, 160, -2, 161, Integer.MIN_VALUE, Integer.MAX_VALUE};
 
     private Rows() {
     }
@@ -21,62 +28,26 @@ final class Rows {
         return x;
     }
 
-    static final int SMALL_OPERATIONS = 4;
-
-    /** Replica 0 holds 160 inserts, each at the front. */
-    static WovenRow full() {
-        WovenRow x = new WovenRow();
-        for (int k = 0; k < MOST_OPERATIONS; k++) {
-            x.insert(0, -1, k);
+    /** The small object with inserts at the front, of replicas 0 and 1 in turn, until it is full. */
+    static WovenRow smallGrownFull() {
+        WovenRow x = small();
+        for (int k = SMALL_OPERATIONS; k < MOST_OPERATIONS; k++) {
+            x.insert(k % 2, -1, k);
         }
         return x;
     }
 
-    /** Every answer that a state of so many operations can give. */
-    static String state(WovenRow x, int operations) {
-        StringBuilder text = new StringBuilder();
-        for (int r = 0; r < REPLICAS; r++) {
-            appendReplica(text, x, r, operations);
-        }
-        for (int k = 0; k <= operations; k++) {
-            int op = k;
-            text.append(Check.outcome(() -> x.value(op))).append(' ');
-            text.append(Check.outcome(() -> x.stamp(op))).append(' ');
-        }
-        return text.toString();
+    /** Replica 0 holds 160 inserts, each at the front. */
+    static WovenRow full() {
+        return atTheFront(MOST_OPERATIONS);
     }
 
-    private static void appendReplica(StringBuilder text, WovenRow x, int r, int operations) {
-        for (int what = 0; what < 4; what++) {
-            text.append(x.count(r, what)).append(' ');
+    /** Replica 0 holds so many inserts, each at the front, of its own number. */
+    static WovenRow atTheFront(int operations) {
+        WovenRow x = new WovenRow();
+        for (int k = 0; k < operations; k++) {
+            x.insert(0, -1, k);
         }
-        for (int k = 0; k <= operations; k++) {
-            int op = k;
-            text.append(Check.outcome(() -> x.holds(r, op))).append(' ');
-            text.append(Check.outcome(() -> x.at(r, op))).append(' ');
-            text.append(Check.outcome(() -> x.place(r, op))).append(' ');
-        }
-        text.append('\n');
-    }
-
-    /** That a refused call leaves all answers of the small object as they were. */
-    static void unchanged(String call, ChangeOf refused) {
-        WovenRow x = small();
-        String before = state(x, SMALL_OPERATIONS);
-        Check.due(call + " is refused", true, () -> isRefused(x, refused));
-        Check.due(call + " changes nothing", before, () -> state(x, SMALL_OPERATIONS));
-    }
-
-    interface ChangeOf {
-        void run(WovenRow x);
-    }
-
-    private static boolean isRefused(WovenRow x, ChangeOf refused) {
-        try {
-            refused.run(x);
-            return false;
-        } catch (RuntimeException e) {
-            return true;
-        }
+        return x;
     }
 }
